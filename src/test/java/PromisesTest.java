@@ -465,6 +465,9 @@ public final class PromisesTest {
         due("from day 2", custom(x, "say:yes;", 2), 2);
         due("a fault", custom(x, "say:maybe;", 0), NONE);
         due("it is empty", x.end(1), NONE);
+        due("no day, so no text is read", custom(x, "say:maybe;", 1000), -2);
+        due("and the fault of before is none", x.fault(0), 0);
+        due("and has no place", x.fault(1), NONE);
         due("none counts", x.count(9), NONE);
         days(x, 2);
         due("text 2", x.count(9), 2);
@@ -522,6 +525,17 @@ public final class PromisesTest {
         faulty(twenty + "hear:no;hear:no", 1, 155);
         faulty(twenty + "\nhear if kin and kin and kin and kin and kin:no;", 3, 141);
         faulty("say if kin and kin and kin and kin and kin:no;" + twenty, 3, 39);
+        faulty(";".repeat(500), 1, 0);
+        faulty("a ".repeat(250), 1, 0);
+        faulty(" ".repeat(500), 0, NONE);
+        faulty(" ".repeat(497) + "say", 1, 500);
+        LastTongue full = new LastTongue();
+        for (int i = 0; i < 3; i++) custom(full, twenty, 0);
+        due("too many in the last text", custom(full, twenty + "say if kin and kin and kin and kin and kin:no;".repeat(5), 0), NONE);
+        due("fault", full.fault(0) * 1000 + full.fault(1), 3140);
+        due("a fifth test in its last line", custom(full, "say:no;".repeat(19) + "say if kin and kin and kin and kin and kin and kin:no;", 0), NONE);
+        due("fault", full.fault(0) * 1000 + full.fault(1), 3172);
+        due("four tests in its last line", custom(full, "say:no;".repeat(19) + "hear if not kin and clan=0 and ear=0 and kind=0:no;", 0), 3);
         LastTongue x = new LastTongue();
         custom(x, "x", 0);
         due("a fault", x.fault(0), 1);
@@ -1417,16 +1431,82 @@ public final class PromisesTest {
         due("no fault", y.fault(0), 0);
         feed(y, "o;");
         due("the tape of then goes on", y.custom(0), 0);
+        twoLives();
+    }
+    /** Two lives from one beginning, as unlike as can be in every number that is kept. */
+    private static void live(LastTongue x, int n) {
+        x.tongue(NONE);
+        x.tongue(n == 1 ? 0 : NONE);
+        x.tongue(n == 1 ? 1 : 0);
+        for (int m = 0; m < 6; m++) { x.word(0, m, f("1" + (m + n))); x.field(m, n); }
+        x.rule(1, 1, n + 1, 0, 0);
+        x.rule(2, n, 7, 0, 0);
+        if (n == 1) x.rule(2, 2, 3, 0, 0);
+        x.cost(0, 10 * n);
+        x.word(1, 0, f("4" + n));
+        x.road(0, 1, n);
+        x.person(n == 1 ? WORKER : KEEPER, n, 0, 0);
+        x.person(n == 1 ? SPEAKER : WORKER, n + 1, n == 1 ? 1 : 0, 0);
+        x.person(LEARNER, n, n - 1, 0);
+        x.person(WORKER, 0, 0, 0);
+        x.have(0, 0x3F);
+        x.have(1, 0x3F);
+        int worker = n == 1 ? 0 : 1;
+        x.letter(n, 1, 10 + n);
+        x.writes(worker, n);
+        x.health(1 - worker, 10 * n);
+        custom(x, n == 1 ? "say if clan=9:no;hear if kin:no;" : "hear if not ear=7:yes;", n - 1);
+        custom(x, n == 1 ? "play if field=1:no;" : "say if kind=9 and dead>3:no;hear:yes;make:no;", n + 1);
+        x.tape(10 * n);
+        days(x, n);
+        x.tape(20 * n);
+        x.ask(worker, 1 - worker, n, n - 1);
+        x.ask(worker, 1 - worker, 5, 2 - n);
+        x.print(0, n == 1 ? 1 : 0, n);
+        x.grant(n, n + 3, 50 * n);
+        x.teach(2, n == 1 ? 1 : 0, n + 1);
+        if (n == 2) x.play(3, 0);
+        x.go(3, n + 1);
+        if (n == 2) x.health(2, 0);
+        custom(x, n == 1 ? "o" : " o", 0);
+        feed(x, "say" + "x".repeat(n));
+    }
+    private static void twoLives() {
+        LastTongue x = new LastTongue();
+        x.image(2);
+        live(x, 1);
+        x.image(0);
+        String first = all(x);
+        x.again(2);
+        live(x, 2);
+        x.image(1);
+        String second = all(x);
+        if (first.equals(second)) due("the lives are unlike", 0, 1);
+        x.again(0);
+        if (!all(x).equals(first)) due("the first life", 0, 1);
+        x.day();
+        String later = all(x);
+        x.again(1);
+        if (!all(x).equals(second)) due("the second life", 0, 1);
+        x.again(0);
+        x.day();
+        if (!all(x).equals(later)) due("the first life goes on", 0, 1);
+        x.again(2);
+        due("nothing", x.count(0) + x.count(1) + x.count(2) + x.count(3) + x.count(4) + x.count(5) + x.end(0), 0);
     }
     private static String all(LastTongue x) {
         StringBuilder s = new StringBuilder();
+        int top = x.feed(7, 7, 7, 7, 7);
+        s.append(top).append(' ').append(x.end(top - 20)).append(' ');
         for (int i = 0; i < 11; i++) s.append(x.count(i)).append(' ');
         for (int p = 0; p < 4; p++) for (int i = 0; i < 13; i++) s.append(x.tell(p, i)).append(' ');
         for (int r = 0; r < 2; r++) for (int i = 0; i < 9; i++) s.append(x.row(r, i)).append(' ');
-        for (int t = 0; t < 3; t++) for (int m = 0; m < 6; m++) s.append(x.form(t, m)).append(' ');
+        for (int t = 0; t < 3; t++) for (int m = 0; m < 6; m++) s.append(x.form(t, m)).append(' ').append(x.known(m % 4, t, m, x.count(5))).append(' ');
         for (int t = 0; t < 2; t++) for (int i = 0; i < 5; i++) s.append(x.about(t, i)).append(' ').append(x.printed(t, i)).append(' ');
         for (int g = 0; g < 2; g++) s.append(x.granted(g, 0)).append(' ').append(x.granted(g, 1)).append(' ');
-        for (int i = 0; i < 3; i++) s.append(x.fault(i)).append(' ').append(x.schools(200, i)).append(' ').append(x.copies(i)).append(' ').append(x.why(i, 1, 1, 0)).append(' ');
-        return s.append(x.known(0, 1, 0, 0)).append(x.find(1, 1)).append(x.visits(0, 5, 2)).append(x.make(0, 0, 0, 0)).toString();
+        for (int i = 0; i < 3; i++) s.append(x.fault(i)).append(' ').append(x.schools(100, i)).append(' ').append(x.copies(i)).append(' ').append(x.visits(0, 5, i)).append(' ');
+        for (int topic = 0; topic < 5; topic++) for (int p = 0; p < 4; p++) s.append(x.why(topic, 1, p, 1)).append(x.may(topic, 0, p, 1)).append(' ');
+        for (int t = 0; t < 3; t++) s.append(x.find(t, 1)).append(' ').append(x.make(0, t, 0, 0)).append(' ').append(x.next(t, 0)).append(' ');
+        return s.append(x.same(0, 1)).toString();
     }
 }
