@@ -121,7 +121,7 @@ public final class RandomRunsTest {
         for (int t = 1; t < tongues; t++) if (chance(80)) addRule(t);
         int most = profile == 1 ? 16 : 5 + random.nextInt(8);
         for (int p = 0; p < most; p++) {
-            int kind = p < 2 ? 4 : profile == 1 ? random.nextInt(2) * 3 : p == 2 ? 2 : chance(40) ? 0 : number(0, 4);
+            int kind = p < 2 && chance(75) ? 4 : profile == 1 ? random.nextInt(2) * 3 : p == 2 ? 2 : chance(40) ? 0 : number(0, 4);
             call("person", kind, number(0, 3), chance(60) ? 1 : aTongue(), profile != 1 && chance(85) ? 0 : number(0, 5));
             call("have", p, bits());
         }
