@@ -1,106 +1,54 @@
 /** For each promise of the document: ordinary inputs, the edges that it names, and wrong inputs. */
-public final class PromisesTest {
-    private static final int NONE = LastTongue.NONE;
-    private static final int[] ODD = {-1, -2, 100000, Integer.MIN_VALUE, Integer.MAX_VALUE};
-    private static final int SPEAKER = 0, HALF = 1, LEARNER = 2, KEEPER = 3, WORKER = 4;
-    private static final int SAY = 0, HEAR = 1, PLAY = 2, PRINT = 3, MAKE = 4;
-
-    private static int promise = 0;
-    private static int wrong = 0;
-    private static int checks = 0;
-
-    private static void due(String what, long got, long want) {
-        checks++;
-        if (got != want) { wrong++; System.out.println("promise " + promise + ": " + what + " answered " + got + ", due is " + want); }
-    }
-    private static void yes(String what, boolean got) { due(what, got ? 1 : 0, 1); }
-    private static void no(String what, boolean got) { due(what, got ? 1 : 0, 0); }
-
-    /** A FORM by its SOUNDS. */
-    private static int f(String sounds) { return Integer.parseInt(sounds, 9); }
-    private static void days(LastTongue x, int n) { for (int i = 0; i < n; i++) x.day(); }
-    private static void feed(LastTongue x, String text) {
-        int had = x.feed(0, 0, 0, 0, 0) - 20;
-        x.end(had);
-        for (int at = 0; at < text.length(); at += 20) {
-            int[] n = new int[5];
-            for (int i = 0; i < 20; i++) n[i / 4] = n[i / 4] << 8 | (at + i < text.length() ? text.charAt(at + i) : 32);
-            x.feed(n[0], n[1], n[2], n[3], n[4]);
-        }
-        x.end(had + text.length());
-    }
-    private static int custom(LastTongue x, String text, int from) { feed(x, text); return x.custom(from); }
-    private static void faulty(String text, int fault, int place) {
-        LastTongue x = new LastTongue();
-        due("custom of " + text, custom(x, text, 0), fault == 0 ? 0 : NONE);
-        due("fault(0) of " + text, x.fault(0), fault);
-        due("fault(1) of " + text, x.fault(1), place);
-        due("texts behind " + text, x.count(2), fault == 0 ? 1 : 0);
-    }
-
-    /** TONGUE 0 with WORDS for the MEANINGS 0 .. 5, TONGUE 1 born of it, a WORKER 0 and a SPEAKER 1 of TONGUE 1, both at PLACE 0. */
-    private static LastTongue village() {
-        LastTongue x = new LastTongue();
-        x.tongue(NONE);
-        x.tongue(0);
-        String[] words = {"1", "12", "123", "21", "31", "413"};
-        for (int m = 0; m < words.length; m++) x.word(0, m, f(words[m]));
-        x.person(WORKER, 0, 0, 0);
-        x.person(SPEAKER, 1, 1, 0);
-        x.have(1, 0x3F);
-        return x;
-    }
-
+public final class PromisesTest extends Checks {
     public static void main(String[] args) {
-        promise = 1; aNewObject();
-        promise = 2; tongue();
-        promise = 3; rule();
-        promise = 4; unrule();
-        promise = 5; word();
-        promise = 6; form();
-        promise = 7; field();
-        promise = 8; road();
-        promise = 9; person();
-        promise = 10; have();
-        promise = 11; health();
-        promise = 12; go();
-        promise = 13; day();
-        promise = 14; tell();
-        promise = 15; feed();
-        promise = 16; end();
-        promise = 17; custom();
-        promise = 18; fault();
-        promise = 19; may();
-        promise = 20; why();
-        promise = 21; writes();
-        promise = 22; letter();
-        promise = 23; tape();
-        promise = 24; copy();
-        promise = 25; about();
-        promise = 26; ask();
-        promise = 27; row();
-        promise = 28; play();
-        promise = 29; known();
-        promise = 30; same();
-        promise = 31; find();
-        promise = 32; reading();
-        promise = 33; next();
-        promise = 34; visits();
-        promise = 35; visited();
-        promise = 36; copies();
-        promise = 37; cost();
-        promise = 38; schools();
-        promise = 39; teach();
-        promise = 40; make();
-        promise = 41; print();
-        promise = 42; printed();
-        promise = 43; grant();
-        promise = 44; granted();
-        promise = 45; count();
-        promise = 46; image();
-        promise = 47; again();
-        System.out.println(wrong == 0 ? checks + " answers are as due" : wrong + " answers are not as due");
-        if (wrong != 0) System.exit(1);
+        by("promise 1"); aNewObject();
+        by("promise 2"); tongue();
+        by("promise 3"); rule();
+        by("promise 4"); unrule();
+        by("promise 5"); word();
+        by("promise 6"); form();
+        by("promise 7"); field();
+        by("promise 8"); road();
+        by("promise 9"); person();
+        by("promise 10"); have();
+        by("promise 11"); health();
+        by("promise 12"); go();
+        by("promise 13"); day();
+        by("promise 14"); tell();
+        by("promise 15"); feed();
+        by("promise 16"); end();
+        by("promise 17"); custom();
+        by("promise 18"); fault();
+        by("promise 19"); may();
+        by("promise 20"); why();
+        by("promise 21"); writes();
+        by("promise 22"); letter();
+        by("promise 23"); tape();
+        by("promise 24"); copy();
+        by("promise 25"); about();
+        by("promise 26"); ask();
+        by("promise 27"); row();
+        by("promise 28"); play();
+        by("promise 29"); known();
+        by("promise 30"); same();
+        by("promise 31"); find();
+        by("promise 32"); reading();
+        by("promise 33"); next();
+        by("promise 34"); visits();
+        by("promise 35"); visited();
+        by("promise 36"); copies();
+        by("promise 37"); cost();
+        by("promise 38"); schools();
+        by("promise 39"); teach();
+        by("promise 40"); make();
+        by("promise 41"); print();
+        by("promise 42"); printed();
+        by("promise 43"); grant();
+        by("promise 44"); granted();
+        by("promise 45"); count();
+        by("promise 46"); image();
+        by("promise 47"); again();
+        finish();
     }
 
     private static void aNewObject() {
