@@ -294,7 +294,7 @@ public final class LastTongue {
             return false;
         }
         if (route == null) {
-            route = new Route();
+            route = new Route(now.people);
         }
         route.solve(now, people.places[worker], days);
         return true;
@@ -723,7 +723,6 @@ public final class LastTongue {
         static final int KIND = 3;
         static final int FIELD = 4;
         static final int DEAD = 5;
-        static final int SEASON = 6;
 
         final int[] bytes = new int[MOST_BYTES];
         int length = 0;
@@ -1989,14 +1988,17 @@ public final class LastTongue {
         final int[] onlys = new int[MOST_VISITED];
         // The fewest DAYS in which a set can be visited from a PLACE.
         final int[] fewest = new int[(1 << MOST_VISITED) * PLACES];
-        People people = null;
+        final People people;
         int startPlace = 0;
         int bestSet = 0;
         int bestOnly = 0;
         int bestDays = 0;
 
+        Route(People people) {
+            this.people = people;
+        }
+
         void solve(World world, int place, int days) {
-            people = world.people;
             startPlace = place;
             gather(world);
             for (int set = 1; set < 1 << size; set++) {

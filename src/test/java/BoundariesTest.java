@@ -381,6 +381,9 @@ public final class BoundariesTest extends Checks {
         yes("WRITING 3", x.writes(4, 3));
         no("WRITING 4", x.writes(4, 4));
         no("WRITING -1", x.writes(4, -1));
+        due("WRITING 3", x.tell(4, 9), 3);
+        yes("WRITING 0", x.writes(4, 0));
+        due("WRITING 0", x.tell(4, 9), 0);
         for (int p = 0; p < 4; p++) no("who is no WORKER has none", x.writes(p, 0));
     }
 
@@ -715,6 +718,14 @@ public final class BoundariesTest extends Checks {
         due("no LINE of it", x.why(HEAR, 1, 0, 0), NONE);
         no("the last LINE", x.may(MAKE, 2, 2, 23));
         due("the last LINE", x.why(MAKE, 2, 2, 23), 104);
+        LastTongue texts = village();
+        for (int t = 0; t < 4; t++) {
+            custom(texts, t % 2 == 0 ? "say:no;hear:yes;say:yes;" : "say:yes;hear:no;say:no;", 0);
+            due("text " + t + ", the first of say", texts.why(SAY, 1, 0, 0), 100 * t);
+            due("text " + t + ", the first of hear", texts.why(HEAR, 1, 0, 0), 100 * t + 1);
+            due("say by text " + t, texts.may(SAY, 1, 0, 0) ? 1 : 0, t % 2);
+            due("hear by text " + t, texts.may(HEAR, 1, 0, 0) ? 1 : 0, 1 - t % 2);
+        }
         no("TOPIC 5", x.may(5, 1, 0, 0));
         no("TOPIC -1", x.may(-1, 1, 0, 0));
         due("TOPIC 5", x.why(5, 1, 0, 0), NONE);
@@ -867,6 +878,14 @@ public final class BoundariesTest extends Checks {
         LastTongue y = village();
         custom(y, "say:no;hear:no;", 0);
         due("say is no, and hear", y.ask(0, 1, 0, NONE), -2);
+        int[] none = {-1, 24, MIN, MAX};
+        for (int n : none) {
+            due("MEANING " + n + ", though say is no", y.ask(0, 1, n, NONE), NONE);
+            due("PERSON " + n + ", though say is no", y.ask(0, n, 0, NONE), NONE);
+            due("WORKER " + n + ", though say is no", y.ask(n, 1, 0, NONE), NONE);
+            if (n != NONE) due("TAPE " + n + ", though say is no", y.ask(0, 1, 0, n), NONE);
+        }
+        due("itself, though say is no", y.ask(0, 0, 0, NONE), NONE);
         y.health(1, 0);
         due("the PERSON is dead, though say is no", y.ask(0, 1, 0, NONE), NONE);
     }
@@ -1129,6 +1148,18 @@ public final class BoundariesTest extends Checks {
         // Lost it would be whole, so it is not.
         foundDue(new String[] {"11"}, new String[] {"11"}, 0, 1000, 64);
         foundDue(new String[] {"11"}, new String[] {"1"}, 0, 1001, 6);
+        // The least and the greatest of x, y, c, d.
+        foundDue(new String[] {"1"}, new String[] {"8"}, 0, 1800, 4);
+        foundDue(new String[] {"81"}, new String[] {"1"}, 0, 8000, 4);
+        foundDue(new String[] {"1", "313"}, new String[] {"2", "323"}, 0, 1200, 1);
+        foundDue(new String[] {"1", "13", "31"}, new String[] {"2", "13", "31"}, 0, 1299, 1);
+        // At all places at once, and a MEANING is OFF but once.
+        foundDue(new String[] {"11"}, new String[] {"22"}, 0, 1200, 1);
+        foundDue(new String[] {"2121"}, new String[] {"2323"}, 0, 1300, 2);
+        foundDue(new String[] {"1212"}, new String[] {"3232"}, 0, 1300, 2);
+        foundDue(new String[] {"21212"}, new String[] {"23232"}, 0, 1300, 4);
+        foundDue(new String[] {"1111", "1", "1"}, new String[] {"1111", "2", "2"}, 0, 1299, 1);
+        foundDue(new String[] {"1111", "11", "11"}, new String[] {"1111", "22", "22"}, 1, 1200, 1);
     }
 
     /** What is FOUND of a TONGUE in which of each PARENT's WORD another one was HEARD. */
@@ -1230,6 +1261,12 @@ public final class BoundariesTest extends Checks {
         x.have(1, 0);
         due("who says nothing", x.next(1, 0), NONE);
         due("of a TONGUE without a PARENT", x.next(0, 0), NONE);
+        // Each SOUND by itself stays: all 64 are RULES by which nothing of that changes.
+        String[] each = {"1", "2", "3", "4", "5", "6", "7", "8"};
+        LastTongue y = foundDue(each, each, 0, 1000, 64);
+        y.word(0, 20, f("2"));
+        due("all READINGS make the same of it", y.next(1, 0), 20);
+        due("all 64", y.next(1, 2), 64);
     }
 
     private static void whom() {
@@ -2026,6 +2063,13 @@ public final class BoundariesTest extends Checks {
         due("SAID by some PERSON", z.granted(0, 0), 0);
         z.field(0, 1);
         due("a HALF that does not SAY it", z.granted(0, 0), 2);
+        LastTongue first = tongues(1);
+        first.word(0, 0, 1);
+        person(first, SPEAKER, 0, 1);
+        first.grant(0, 1, 0);
+        due("SAID by PERSON 0", first.granted(0, 0), 0);
+        first.day();
+        due("its DAY is over", first.granted(0, 0), 2);
     }
     private static void stateDue(String what, LastTongue x, int... states) {
         for (int g = 0; g < states.length; g++) due(what + ", GRANT " + g, x.granted(g, 0), states[g]);

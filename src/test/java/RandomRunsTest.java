@@ -7,11 +7,9 @@ public final class RandomRunsTest {
     private static final int CALLS = 512;
 
     private final Random random;
-    private final LastTongue tongue = new LastTongue();
-    private final List<List<Call>> images = new ArrayList<>();
+    private final Twins twins = new Twins();
     private final List<String> told = new ArrayList<>();
-    private Plain plain = new Plain();
-    private List<Call> made = new ArrayList<>();
+    private Plain plain = twins.plain;
     private final int wild;
     private final int soundLimit;
     private int wrong = 0;
@@ -20,7 +18,6 @@ public final class RandomRunsTest {
         random = new Random(seed);
         wild = random.nextInt(3) == 0 ? 25 : 3;
         soundLimit = random.nextInt(3) == 0 ? 8 : 3;
-        for (int i = 0; i < 3; i++) images.add(null);
     }
 
     public static void main(String[] args) {
@@ -53,30 +50,12 @@ public final class RandomRunsTest {
     private int call(String name, int... numbers) {
         if (told.size() >= CALLS || wrong > 0) return 0;
         Call call = new Call(name, numbers);
-        int want = due(call);
-        int got = call.of(tongue);
+        int want = twins.due(call);
+        plain = twins.plain;
+        int got = call.of(twins.tongue);
         told.add(call + " answered " + got + ", due is " + want);
         if (got != want) wrong++;
         return got;
-    }
-
-    /** Plain has no images: all calls that led to one are made again. */
-    private int due(Call call) {
-        int k = call.numbers.length == 1 ? call.numbers[0] : -1;
-        if (call.name.equals("image")) {
-            if (k < 0 || k > 2) return 0;
-            images.set(k, new ArrayList<>(made));
-            return 1;
-        }
-        if (call.name.equals("again")) {
-            if (k < 0 || k > 2 || images.get(k) == null) return 0;
-            made = new ArrayList<>(images.get(k));
-            plain = new Plain();
-            for (Call c : made) c.of(plain);
-            return 1;
-        }
-        made.add(call);
-        return call.of(plain);
     }
 
     private int form() {
