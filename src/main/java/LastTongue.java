@@ -2106,7 +2106,7 @@ public final class LastTongue {
         }
     }
 
-    /** COPIES. Who can be done at all can be done in the order in which the TAPES are GONE. */
+    /** COPIES. */
     private static final class Copying {
         static final int MOST_COPIED = 12;
         static final int ROWS_A_DAY = 4;
@@ -2131,7 +2131,9 @@ public final class LastTongue {
             bestWorth = 0;
             bestDays = 0;
             bestSet = 0;
-            choose(0, 0, 0, 0);
+            for (int chosen = 1; chosen < 1 << size; chosen++) {
+                weigh(chosen);
+            }
         }
 
         private void insert(Archive archive, int tape, int worth, int day) {
@@ -2151,23 +2153,23 @@ public final class LastTongue {
             size++;
         }
 
-        /** With and without each TAPE from one on; the depth is at most the number of TAPES. */
-        private void choose(int from, int days, int worth, int set) {
-            if (from >= size) {
-                weigh(days, worth, set);
-                return;
+        /** The TAPES stand in the order in which they are GONE, so a set that can be done at all is done in that order. */
+        private void weigh(int chosen) {
+            int worth = 0;
+            int days = 0;
+            int set = 0;
+            boolean inTime = true;
+            for (int i = 0; i < size; i++) {
+                if ((chosen >> i & 1) != 0) {
+                    worth += worths[i];
+                    days += lengths[i];
+                    set |= 1 << tapes[i];
+                    inTime = inTime && days <= daysLeft[i];
+                }
             }
-            choose(from + 1, days, worth, set);
-            int then = days + lengths[from];
-            if (then <= daysLeft[from]) {
-                choose(from + 1, then, worth + worths[from], set | 1 << tapes[from]);
-            }
-        }
-
-        private void weigh(int days, int worth, int set) {
             boolean equal = worth == bestWorth && days == bestDays;
             boolean better = worth > bestWorth || worth == bestWorth && days < bestDays || equal && set < bestSet;
-            if (better) {
+            if (inTime && better) {
                 bestWorth = worth;
                 bestDays = days;
                 bestSet = set;
