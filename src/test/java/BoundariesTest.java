@@ -1591,6 +1591,21 @@ public final class BoundariesTest extends Checks {
         copiesDue("3 of one, or 1 of each of three", z, 3, 3, 0);
         record(z, 3, 1, 6, 1);
         copiesDue("3 of two, in 3 DAYS, too", z, 3, 3, 0);
+        // The first is GONE later than the second, and there is time for one.
+        LastTongue v = studio();
+        v.tape(3);
+        v.tape(2);
+        record(v, 0, 5, 0, 1);
+        record(v, 1, 5, 1, 1);
+        copiesDue("the least set, though GONE later", v, 1, 2, 0);
+        record(v, 1, 1, 2, 1);
+        copiesDue("most WORTH ahead of the least set", v, 2, 2, 1);
+        LastTongue u = studio();
+        u.tape(2);
+        u.tape(1);
+        record(u, 0, 5, 0, 2);
+        record(u, 1, 4, 2, 2);
+        copiesDue("the fewest DAYS ahead of the least set", u, 2, 1, 1);
         LastTongue w = studio();
         for (int t = 0; t < 16; t++) w.tape(1);
         record(w, 15, 1, 0, 1);
@@ -1877,6 +1892,11 @@ public final class BoundariesTest extends Checks {
                 if (a + b > 6) madeDue("ahead of the RULES, " + both, x, 0, 0);
             }
         }
+        LastTongue long4 = worded("1234");
+        long4.person(WORKER, 0, 0, 0);
+        madeDue("all MEANINGS have WORDS, of 4 SOUNDS", long4, 0, 0);
+        long4.word(0, 23, f("12"));
+        madeDue("one has a WORD of 2", long4, 0, 0, "121234", "123412");
     }
 
     private static void noneIfMakeIsNo() {
