@@ -296,7 +296,8 @@ public final class LastTongue {
         if (route == null) {
             route = new Route(now.people);
         }
-        route.solve(now, people.places[worker], days);
+        route.gather(now);
+        route.solve(people.places[worker], days);
         return true;
     }
 
@@ -784,6 +785,7 @@ public final class LastTongue {
                 length = 0;
                 return NOT_READ;
             }
+            reader.split();
             fault = reader.readText(size);
             faultPlace = reader.faultPlace;
             length = 0;
@@ -883,13 +885,12 @@ public final class LastTongue {
             this.customs = customs;
         }
 
-        /** The FAULT, 0 without. */
+        /** The FAULT of the tokens that were split last, 0 without. */
         int readText(int slot) {
             text = slot;
             at = 0;
             tooManyPlace = NONE;
             customs.lineCounts[slot] = 0;
-            split();
             for (int line = 0; line < Customs.MOST_BYTES && tokens[at] != END; line++) {
                 if (line == Customs.MOST_LINES) {
                     noteTooMany();
@@ -979,7 +980,7 @@ public final class LastTongue {
         }
 
         /** All tokens up to the end, or up to what is none: there the reading stops at the latest. */
-        private void split() {
+        void split() {
             int place = 0;
             int count = 0;
             boolean more = true;
@@ -1998,9 +1999,23 @@ public final class LastTongue {
             this.people = people;
         }
 
-        void solve(World world, int place, int days) {
+        /** Those that may be visited. */
+        void gather(World world) {
+            size = 0;
+            for (int p = 0; p < people.size && size < MOST_VISITED; p++) {
+                int only = people.places[p] == NONE ? 0 : world.onlyOf(p);
+                if (only > 0) {
+                    persons[size] = p;
+                    places[size] = people.places[p];
+                    onlys[size] = only;
+                    size++;
+                }
+            }
+        }
+
+        /** The best of those that were gathered last. */
+        void solve(int place, int days) {
             startPlace = place;
-            gather(world);
             for (int set = 1; set < 1 << size; set++) {
                 for (int from = 0; from < PLACES; from++) {
                     fewest[set * PLACES + from] = fewestFrom(set, from);
@@ -2011,19 +2026,6 @@ public final class LastTongue {
             bestDays = 0;
             for (int set = 1; set < 1 << size; set++) {
                 weigh(set, days);
-            }
-        }
-
-        private void gather(World world) {
-            size = 0;
-            for (int p = 0; p < people.size && size < MOST_VISITED; p++) {
-                int only = people.places[p] == NONE ? 0 : world.onlyOf(p);
-                if (only > 0) {
-                    persons[size] = p;
-                    places[size] = people.places[p];
-                    onlys[size] = only;
-                    size++;
-                }
             }
         }
 
